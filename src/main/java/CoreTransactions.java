@@ -259,14 +259,16 @@ public final class CoreTransactions {
                 core.put(a, r[b] + c);
                 break;
             case LOAD:
-                if (!load(core, a, r[b] + c)) {
+                if (!mayAccess(core, r[b] + c, false)) {
                     return false;
                 }
+                core.put(a, wordSeenBy(core, r[b] + c));
                 break;
             case STORE:
-                if (!store(core, r[a], r[b] + c)) {
+                if (!mayAccess(core, r[b] + c, true)) {
                     return false;
                 }
+                write(core, r[b] + c, r[a]);
                 break;
             case LESS:
                 next = r[a] < r[b] ? c : next;
@@ -278,7 +280,7 @@ public final class CoreTransactions {
                 next = c;
                 break;
             default:
-                if (!bound(core, at)) {
+                if (!executeTransactional(core, at)) {
                     return false;
                 }
                 break;
@@ -287,8 +289,8 @@ public final class CoreTransactions {
         return true;
     }
 
-    /** The operations that begin or end a transaction or the core; whether it is retired. */
-    private boolean bound(Core core, int at) {
+    /** The operations that begin or end a transaction, or may; whether it is retired. */
+    private boolean executeTransactional(Core core, int at) {
         switch (program.operations[at]) {
             case BEGIN:
                 return begin(core, at);
@@ -328,24 +330,12 @@ public final class CoreTransactions {
         }
     }
 
-    private boolean load(Core core, int register, int word) {
-        if (!mayAccess(core, word, false)) {
-            return false;
-        }
-        core.put(register, wordSeenBy(core, word));
-        return true;
-    }
-
-    private boolean store(Core core, int v, int word) {
-        if (!mayAccess(core, word, true)) {
-            return false;
-        }
+    private void write(Core core, int word, int v) {
         if (core.transaction.depth > 0) {
             core.transaction.keep(word, v);
         } else {
             memory[word] = v;
         }
-        return true;
     }
 
     /** Clears the way to a word and marks its line; false after a fault or a break-off of this core. */
@@ -372,6 +362,7 @@ public final class CoreTransactions {
         return true;
     }
 
+    /** A core without a transaction meets none: its age is 0. */
     private boolean meetsOlder(Core core, int line, boolean writes) {
         for (int n = 0; n < cores.length; n++) {
             Transaction other = cores[n].transaction;
@@ -392,7 +383,11 @@ public final class CoreTransactions {
     }
 
     private void fault(Core core) {
-        core.ended = !breaksOff(core, CODE_FAULT);
+        if (core.transaction.depth > 0) {
+            breakOff(core, CODE_FAULT);
+        } else {
+            core.ended = true;
+        }
     }
 
     /** Whether there was a transaction to be broken off. */
@@ -520,8 +515,10 @@ public final class CoreTransactions {
 
         int linesInSet(int set, int sets) {
             int count = 0;
-            for (int line = set; line < LINES; line += sets) {
-                count += (linesRead | linesWritten) >> line & 1;
+            for (int line = 0; line < LINES; line++) {
+                if (line % sets == set) {
+                    count += (linesRead | linesWritten) >> line & 1;
+                }
             }
             return count;
         }
@@ -569,7 +566,7 @@ public final class CoreTransactions {
         int oldest;
 
         void add(int core, int beginPlace, int code, int age) {
-            int row = rowOf(count) * RECORD_FIELDS;
+            int row = (oldest + count) % MOST_RECORDS * RECORD_FIELDS;
             fields[row] = core;
             fields[row + 1] = beginPlace;
             fields[row + 2] = code;
@@ -577,21 +574,17 @@ public final class CoreTransactions {
             if (count < MOST_RECORDS) {
                 count++;
             } else {
-                oldest = rowOf(1);
+                oldest = (oldest + 1) % MOST_RECORDS;
             }
         }
 
         int field(int k, int what) {
-            return fields[rowOf(k) * RECORD_FIELDS + what];
+            return fields[(oldest + k) % MOST_RECORDS * RECORD_FIELDS + what];
         }
 
         void forget() {
             count = 0;
             oldest = 0;
-        }
-
-        private int rowOf(int k) {
-            return (oldest + k) % MOST_RECORDS;
         }
     }
 }

@@ -339,6 +339,16 @@ public final class PromisesTest {
         x.start(0, 0);
         x.pick(0, 1);
         checks.due("nothing is left for the next one", 1, x.seen(0, 8));
+
+        for (int word = 0; word < 64; word++) {
+            x.clear();
+            program(x, new int[][] {{BEGIN, 0, 0, 9}, {STORE, 2, 0, word}, {END, 0, 0, 0}});
+            x.set(0, 2, 100 + word);
+            x.pick(0, 3);
+            for (int other = 0; other < 64; other++) {
+                checks.due("commit of " + word + ": " + other, other == word ? 100 + word : 0, x.word(other));
+            }
+        }
     }
 
     private void termsRegistersKept() {
@@ -485,6 +495,15 @@ public final class PromisesTest {
         checkRecord(x, 0, 0, 0, 3, 1);
         checks.due("no lines", 0, x.told(0, READ) + x.told(0, WRITTEN) + x.told(0, STORED));
         checks.due("nothing stored", 0, x.seen(0, 1) + x.word(1) + x.word(16));
+
+        CoreTransactions one = new CoreTransactions(1, 0, 1);
+        for (int line = 0; line < 16; line++) {
+            for (int other = 0; other < 16; other++) {
+                one.clear();
+                program(one, new int[][] {{BEGIN, 0, 0, 9}, {LOAD, 2, 0, 4 * line}, {LOAD, 2, 0, 4 * other + 3}});
+                checks.due("lines " + line + ", " + other + " in one way", line == other ? 3 : 2, one.pick(0, 3));
+            }
+        }
     }
 
     private void promise3Start() {
@@ -736,11 +755,14 @@ public final class PromisesTest {
         CoreTransactions x = new CoreTransactions(3, 1, 3);
         CoreTransactions fresh = new CoreTransactions(3, 1, 3);
         int[][] program = {{BEGIN, 0, 0, 5}, {STORE, 2, 0, 3}, {LOAD, 3, 0, 11}, {JUMP, 0, 0, 4}, {LOAD, 3, 0, 19},
-                {MORE, 2, 2, 1}, {LOAD, 3, 0, 27}, {END, 0, 0, 0}};
+                {MORE, 2, 2, 1}, {LOAD, 3, 0, 7}, {END, 0, 0, 0}};
         program(x, program);
         x.set(0, 2, 4);
         x.set(1, 2, 5);
+        x.poke(0, 8);
         x.poke(63, 9);
+        checks.due("a whole transaction", 8, x.pick(1, 8));
+        checks.due("committed", 1, x.told(1, COMMITTED));
         x.run(77, 60);
         x.start(0, 0);
         x.pick(0, 3);
