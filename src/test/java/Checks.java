@@ -36,6 +36,23 @@ final class Checks {
         }
     }
 
+    void dueRecord(CoreTransactions x, int k, int core, int place, int code, int age) {
+        if (k >= x.records()) {
+            due("there is a record " + k, 1, 0);
+            return;
+        }
+        due("record " + k + ": core", core, x.record(k, 0));
+        due("record " + k + ": BEGIN's place", place, x.record(k, 1));
+        due("record " + k + ": code", code, x.record(k, 2));
+        due("record " + k + ": age", age, x.record(k, 3));
+    }
+
+    static void program(CoreTransactions x, int[]... rows) {
+        for (int[] row : rows) {
+            x.instruction(row[0], row[1], row[2], row[3]);
+        }
+    }
+
     /** All that the object's asking calls answer, one behind the other. */
     static List<Integer> stateOf(CoreTransactions x) {
         List<Integer> state = new ArrayList<>();

@@ -1,37 +1,5 @@
 /** Each promise of the document, with answers worked out by hand. */
-public final class PromisesTest {
-    private static final int SET = 0;
-    private static final int ADD = 1;
-    private static final int SUB = 2;
-    private static final int MUL = 3;
-    private static final int MORE = 4;
-    private static final int LOAD = 5;
-    private static final int STORE = 6;
-    private static final int LESS = 7;
-    private static final int OTHER = 8;
-    private static final int JUMP = 9;
-    private static final int BEGIN = 10;
-    private static final int END = 11;
-    private static final int ABORT = 12;
-    private static final int HALT = 13;
-
-    private static final int PLACE = 0;
-    private static final int ENDED = 1;
-    private static final int RETIRED = 2;
-    private static final int DEEP = 3;
-    private static final int AGE = 4;
-    private static final int READ = 5;
-    private static final int WRITTEN = 6;
-    private static final int STORED = 7;
-    private static final int COMMITTED = 8;
-    private static final int BROKEN_OFF = 9;
-
-    private static final Class<IndexOutOfBoundsException> INDEX = IndexOutOfBoundsException.class;
-    private static final Class<IllegalArgumentException> ILLEGAL = IllegalArgumentException.class;
-    private static final Class<UnsupportedOperationException> UNSUPPORTED = UnsupportedOperationException.class;
-    private static final int MIN = Integer.MIN_VALUE;
-    private static final int MAX = Integer.MAX_VALUE;
-
+public final class PromisesTest implements Names {
     private final Checks checks = new Checks();
 
     public static void main(String[] args) {
@@ -88,7 +56,7 @@ public final class PromisesTest {
         for (int[] row : setsDue) {
             for (int apart = 1; apart <= 4; apart++) {
                 CoreTransactions x = new CoreTransactions(1, row[0], 1);
-                program(x, new int[][] {{BEGIN, 0, 0, 5}, {LOAD, 2, 0, 7}, {LOAD, 3, 0, 7 + 4 * apart}});
+                Checks.program(x, new int[][] {{BEGIN, 0, 0, 5}, {LOAD, 2, 0, 7}, {LOAD, 3, 0, 7 + 4 * apart}});
                 x.pick(0, 3);
                 boolean sameSet = apart % row[1] == 0;
                 checks.due("sets " + row[0] + ", lines " + apart + " apart", sameSet ? 0 : 1, x.told(0, DEEP));
@@ -101,7 +69,7 @@ public final class PromisesTest {
         int[][] waysDue = {{MIN, 1}, {-1, 1}, {0, 1}, {1, 1}, {2, 2}, {3, 3}, {4, 4}, {5, 4}, {MAX, 4}};
         for (int[] row : waysDue) {
             CoreTransactions x = new CoreTransactions(1, 0, row[0]);
-            program(x, new int[][] {{BEGIN, 0, 0, 9}, {LOAD, 2, 0, 0}, {LOAD, 2, 0, 4}, {LOAD, 2, 0, 8},
+            Checks.program(x, new int[][] {{BEGIN, 0, 0, 9}, {LOAD, 2, 0, 0}, {LOAD, 2, 0, 4}, {LOAD, 2, 0, 8},
                     {LOAD, 2, 0, 12}, {LOAD, 2, 0, 16}});
             checks.due("ways " + row[0], row[1] + 1, x.pick(0, row[1] + 1));
             checks.due("still in it", 1, x.told(0, DEEP));
@@ -163,7 +131,8 @@ public final class PromisesTest {
 
     private void termsArithmetic() {
         CoreTransactions x = new CoreTransactions(1, 0, 1);
-        program(x, new int[][] {{SET, 2, 0, MAX}, {SET, 3, 0, 5}, {ADD, 4, 2, 3}, {SUB, 5, 3, 2}, {SUB, 6, 4, 3},
+        Checks.program(x, new int[][] {{SET, 2, 0, MAX}, {SET, 3, 0, 5}, {ADD, 4, 2, 3}, {SUB, 5, 3, 2},
+                {SUB, 6, 4, 3},
                 {MUL, 7, 2, 3}, {MORE, 1, 2, 1}, {SET, 0, 0, 9}, {ADD, 0, 2, 3}, {MORE, 0, 0, 3}, {ADD, 3, 3, 3},
                 {ADD, 2, 0, 0}, {HALT, 0, 0, 0}});
         checks.due("arithmetic retired", 13, x.pick(0, 20));
@@ -175,7 +144,7 @@ public final class PromisesTest {
 
     private void termsMemory() {
         CoreTransactions x = new CoreTransactions(1, 0, 1);
-        program(x, new int[][] {{SET, 2, 0, 60}, {SET, 3, 0, 42}, {STORE, 3, 2, 3}, {STORE, 2, 2, -60},
+        Checks.program(x, new int[][] {{SET, 2, 0, 60}, {SET, 3, 0, 42}, {STORE, 3, 2, 3}, {STORE, 2, 2, -60},
                 {LOAD, 4, 2, 3}, {LOAD, 5, 0, 0}, {LOAD, 0, 0, 0}, {SET, 6, 0, MIN}, {LOAD, 7, 6, MIN},
                 {STORE, 0, 0, 63}, {HALT, 0, 0, 0}});
         checks.due("memory: what comes before", 2, x.pick(0, 2));
@@ -217,7 +186,7 @@ public final class PromisesTest {
         for (int[] row : faults) {
             boolean jumps = row[0] == JUMP;
             CoreTransactions x = new CoreTransactions(1, 0, 1);
-            program(x, new int[][] {{SET, 2, 0, 7}, {BEGIN, 0, 0, 0}, row});
+            Checks.program(x, new int[][] {{SET, 2, 0, 7}, {BEGIN, 0, 0, 0}, row});
             x.start(0, 2);
             checks.due("fault outside: retired", jumps ? 1 : 0, x.pick(0, 5));
             checks.due("fault outside: ended", 1, x.told(0, ENDED));
@@ -228,7 +197,7 @@ public final class PromisesTest {
             checks.due("fault within: runs", 0, x.told(0, ENDED));
             checks.due("fault within: place", 0, x.told(0, PLACE));
             checks.due("fault within: r 1", 1, x.register(0, 1));
-            checkRecord(x, 0, 0, 1, 1, 1);
+            checks.dueRecord(x, 0, 0, 1, 1, 1);
             checks.due("fault within: it goes on", 1, x.pick(0, 1));
             checks.due("fault within: r 2", 7, x.register(0, 2));
         }
@@ -242,7 +211,8 @@ public final class PromisesTest {
 
     private void termsHalt() {
         CoreTransactions x = new CoreTransactions(1, 0, 1);
-        program(x, new int[][] {{HALT, 0, 0, 0}, {BEGIN, 0, 0, 4}, {MORE, 3, 3, 1}, {HALT, 0, 0, 0}, {HALT, 0, 0, 0}});
+        Checks.program(x, new int[][] {{HALT, 0, 0, 0}, {BEGIN, 0, 0, 4}, {MORE, 3, 3, 1}, {HALT, 0, 0, 0},
+                {HALT, 0, 0, 0}});
         checks.due("HALT is retired", 1, x.pick(0, 9));
         checks.due("the next place is behind it", 1, x.told(0, PLACE));
         checks.due("ended", 1, x.told(0, ENDED));
@@ -252,14 +222,15 @@ public final class PromisesTest {
         checks.due("it runs", 0, x.told(0, ENDED));
         checks.due("code 5", 5, x.register(0, 1));
         checks.due("r 3 is lost", 0, x.register(0, 3));
-        checkRecord(x, 0, 0, 1, 5, 1);
+        checks.dueRecord(x, 0, 0, 1, 5, 1);
         checks.due("HALT behind", 1, x.pick(0, 3));
         checks.due("ended again", 1, x.told(0, ENDED));
     }
 
     private void termsNesting() {
         CoreTransactions x = new CoreTransactions(1, 0, 4);
-        program(x, new int[][] {{END, 0, 0, 0}, {BEGIN, 0, 0, 30}, {STORE, 2, 0, 9}, {BEGIN, 0, 0, 40}, {END, 0, 0, 0},
+        Checks.program(x, new int[][] {{END, 0, 0, 0}, {BEGIN, 0, 0, 30}, {STORE, 2, 0, 9}, {BEGIN, 0, 0, 40},
+                {END, 0, 0, 0},
                 {END, 0, 0, 0}, {END, 0, 0, 0}});
         x.set(0, 2, 6);
         checks.due("END without one", 1, x.pick(0, 1));
@@ -276,7 +247,8 @@ public final class PromisesTest {
         checks.due("none any more", 0, x.told(0, DEEP) + x.told(0, AGE) + x.told(0, WRITTEN) + x.told(0, STORED));
 
         x.clear();
-        program(x, new int[][] {{SET, 5, 0, 1}, {BEGIN, 0, 0, 10}, {JUMP, 0, 0, 3}, {BEGIN, 0, 0, 20}, {JUMP, 0, 0, 3}});
+        Checks.program(x, new int[][] {{SET, 5, 0, 1}, {BEGIN, 0, 0, 10}, {JUMP, 0, 0, 3}, {BEGIN, 0, 0, 20},
+                {JUMP, 0, 0, 3}});
         checks.due("eight deep", 2 + 1 + 7 * 2, x.pick(0, 17));
         checks.due("depth", 8, x.told(0, DEEP));
         checks.due("the ninth", 0, x.pick(0, 1));
@@ -284,7 +256,7 @@ public final class PromisesTest {
         checks.due("the first one's place to go on", 10, x.told(0, PLACE));
         checks.due("code 2", 2, x.register(0, 1));
         checks.due("kept r 5", 1, x.register(0, 5));
-        checkRecord(x, 0, 0, 1, 2, 1);
+        checks.dueRecord(x, 0, 0, 1, 2, 1);
         x.start(0, 1);
         x.pick(0, 1);
         checks.due("the next age", 2, x.told(0, AGE));
@@ -294,18 +266,18 @@ public final class PromisesTest {
         int[][] codes = {{0, 256}, {7, 263}, {-256, 0}, {MAX, MAX + 256}};
         for (int[] row : codes) {
             CoreTransactions x = new CoreTransactions(1, 0, 1);
-            program(x, new int[][] {{ABORT, 2, 0, 0}, {BEGIN, 0, 0, 3}, {ABORT, 2, 0, 0}, {ABORT, 2, 0, 0}});
+            Checks.program(x, new int[][] {{ABORT, 2, 0, 0}, {BEGIN, 0, 0, 3}, {ABORT, 2, 0, 0}, {ABORT, 2, 0, 0}});
             x.set(0, 2, row[0]);
             checks.due("ABORT without one, BEGIN", 2, x.pick(0, 2));
             checks.due("ABORT within", 0, x.pick(0, 1));
             checks.due("its code", row[1], x.register(0, 1));
             checks.due("its place", 3, x.told(0, PLACE));
-            checkRecord(x, 0, 0, 1, row[1], 1);
+            checks.dueRecord(x, 0, 0, 1, row[1], 1);
             checks.due("ABORT behind", 1, x.pick(0, 1));
             checks.due("does nothing", 1, x.records());
         }
         CoreTransactions x = new CoreTransactions(1, 0, 1);
-        program(x, new int[][] {{BEGIN, 0, 0, 3}, {BEGIN, 0, 0, 4}, {ABORT, 0, 0, 0}});
+        Checks.program(x, new int[][] {{BEGIN, 0, 0, 3}, {BEGIN, 0, 0, 4}, {ABORT, 0, 0, 0}});
         x.pick(0, 3);
         checks.due("ABORT breaks off both", 0, x.told(0, DEEP));
         checks.due("one record", 1, x.records());
@@ -314,7 +286,7 @@ public final class PromisesTest {
 
     private void termsCommit() {
         CoreTransactions x = new CoreTransactions(2, 0, 4);
-        program(x, new int[][] {{BEGIN, 0, 0, 9}, {STORE, 2, 0, 8}, {STORE, 3, 0, 8}, {STORE, 3, 0, 11},
+        Checks.program(x, new int[][] {{BEGIN, 0, 0, 9}, {STORE, 2, 0, 8}, {STORE, 3, 0, 8}, {STORE, 3, 0, 11},
                 {LOAD, 4, 0, 8}, {STORE, 0, 0, 63}, {END, 0, 0, 0}});
         x.poke(63, 5);
         x.set(0, 2, 20);
@@ -342,7 +314,7 @@ public final class PromisesTest {
 
         for (int word = 0; word < 64; word++) {
             x.clear();
-            program(x, new int[][] {{BEGIN, 0, 0, 9}, {STORE, 2, 0, word}, {END, 0, 0, 0}});
+            Checks.program(x, new int[][] {{BEGIN, 0, 0, 9}, {STORE, 2, 0, word}, {END, 0, 0, 0}});
             x.set(0, 2, 100 + word);
             x.pick(0, 3);
             for (int other = 0; other < 64; other++) {
@@ -353,7 +325,8 @@ public final class PromisesTest {
 
     private void termsRegistersKept() {
         CoreTransactions x = new CoreTransactions(1, 0, 1);
-        program(x, new int[][] {{BEGIN, 0, 0, 3}, {SET, 7, 0, 70}, {ABORT, 0, 0, 0}, {BEGIN, 0, 0, 6}, {SET, 6, 0, 60},
+        Checks.program(x, new int[][] {{BEGIN, 0, 0, 3}, {SET, 7, 0, 70}, {ABORT, 0, 0, 0}, {BEGIN, 0, 0, 6},
+                {SET, 6, 0, 60},
                 {END, 0, 0, 0}});
         for (int register = 1; register < 8; register++) {
             x.set(0, register, register);
@@ -375,7 +348,7 @@ public final class PromisesTest {
         int[][] rows = {{LOAD, LOAD, 0}, {LOAD, STORE, 1}, {STORE, LOAD, 1}, {STORE, STORE, 1}};
         for (int[] row : rows) {
             CoreTransactions x = new CoreTransactions(2, 0, 4);
-            program(x, new int[][] {{BEGIN, 0, 0, 7}, {row[0], 2, 0, 5}, {END, 0, 0, 0}, {BEGIN, 0, 0, 8},
+            Checks.program(x, new int[][] {{BEGIN, 0, 0, 7}, {row[0], 2, 0, 5}, {END, 0, 0, 0}, {BEGIN, 0, 0, 8},
                     {row[1], 2, 0, 6}, {END, 0, 0, 0}});
             x.start(1, 3);
             x.pick(0, 2);
@@ -385,13 +358,13 @@ public final class PromisesTest {
             checks.due("the elder's depth", 1, x.told(0, DEEP));
             checks.due("records", row[2], x.records());
             if (row[2] == 1) {
-                checkRecord(x, 0, 1, 3, 4, 2);
+                checks.dueRecord(x, 0, 1, 3, 4, 2);
                 checks.due("no line is marked", 0, x.told(1, READ) + x.told(1, WRITTEN));
                 checks.due("its place", 8, x.told(1, PLACE));
             }
 
             x.clear();
-            program(x, new int[][] {{BEGIN, 0, 0, 7}, {row[0], 2, 0, 5}, {END, 0, 0, 0}, {BEGIN, 0, 0, 8},
+            Checks.program(x, new int[][] {{BEGIN, 0, 0, 7}, {row[0], 2, 0, 5}, {END, 0, 0, 0}, {BEGIN, 0, 0, 8},
                     {row[1], 2, 0, 6}, {END, 0, 0, 0}});
             x.start(1, 3);
             x.pick(0, 1);
@@ -411,7 +384,8 @@ public final class PromisesTest {
             for (int word = 3; word <= 8; word++) {
                 boolean breaks = row[2] == 1 && word / 4 == 1;
                 CoreTransactions x = new CoreTransactions(4, 0, 4);
-                program(x, new int[][] {{BEGIN, 0, 0, 7}, {row[0], 2, 0, 5}, {JUMP, 0, 0, 9}, {row[1], 3, 0, word}});
+                Checks.program(x, new int[][] {{BEGIN, 0, 0, 7}, {row[0], 2, 0, 5}, {JUMP, 0, 0, 9},
+                        {row[1], 3, 0, word}});
                 x.start(2, 3);
                 x.set(2, 3, 33);
                 x.poke(5, 55);
@@ -431,7 +405,7 @@ public final class PromisesTest {
     private void termsConflictMixedAges() {
         int[][] program = {{BEGIN, 0, 0, 20}, {LOAD, 2, 0, 0}, {STORE, 2, 0, 1}};
         CoreTransactions x = new CoreTransactions(4, 0, 4);
-        program(x, program);
+        Checks.program(x, program);
         x.pick(3, 2);
         x.pick(1, 2);
         x.pick(0, 2);
@@ -440,10 +414,10 @@ public final class PromisesTest {
         checks.due("itself", 0, x.told(1, DEEP));
         checks.due("the younger", 1, x.told(0, DEEP));
         checks.due("records", 1, x.records());
-        checkRecord(x, 0, 1, 0, 4, 2);
+        checks.dueRecord(x, 0, 1, 0, 4, 2);
 
         x.clear();
-        program(x, program);
+        Checks.program(x, program);
         x.pick(1, 1);
         x.pick(3, 2);
         x.pick(2, 1);
@@ -453,31 +427,31 @@ public final class PromisesTest {
         checks.due("itself stays", 1, x.told(1, DEEP));
         checks.due("one that has not met the line stays", 1, x.told(2, DEEP));
         checks.due("records of both", 2, x.records());
-        checkRecord(x, 0, 0, 0, 4, 4);
-        checkRecord(x, 1, 3, 0, 4, 2);
+        checks.dueRecord(x, 0, 0, 0, 4, 4);
+        checks.dueRecord(x, 1, 3, 0, 4, 2);
         checks.due("their places", 40, x.told(0, PLACE) + x.told(3, PLACE));
     }
 
     private void termsConflictBeforeRoom() {
         CoreTransactions x = new CoreTransactions(2, 0, 1);
-        program(x, new int[][] {{BEGIN, 0, 0, 20}, {LOAD, 2, 0, 0}, {STORE, 2, 0, 4}, {BEGIN, 0, 0, 30},
+        Checks.program(x, new int[][] {{BEGIN, 0, 0, 20}, {LOAD, 2, 0, 0}, {STORE, 2, 0, 4}, {BEGIN, 0, 0, 30},
                 {LOAD, 2, 0, 5}});
         x.pick(0, 2);
         x.start(1, 3);
         x.pick(1, 2);
         checks.due("no room behind a conflict", 0, x.pick(0, 1));
         checks.due("both are gone", 0, x.told(0, DEEP) + x.told(1, DEEP));
-        checkRecord(x, 0, 1, 3, 4, 2);
-        checkRecord(x, 1, 0, 0, 3, 1);
+        checks.dueRecord(x, 0, 1, 3, 4, 2);
+        checks.dueRecord(x, 1, 0, 0, 3, 1);
 
         x.clear();
-        program(x, new int[][] {{BEGIN, 0, 0, 20}, {LOAD, 2, 0, 0}, {STORE, 2, 0, 4}, {BEGIN, 0, 0, 30},
+        Checks.program(x, new int[][] {{BEGIN, 0, 0, 20}, {LOAD, 2, 0, 0}, {STORE, 2, 0, 4}, {BEGIN, 0, 0, 30},
                 {LOAD, 2, 0, 5}});
         x.start(1, 3);
         x.pick(1, 2);
         x.pick(0, 2);
         checks.due("an elder before no room", 0, x.pick(0, 1));
-        checkRecord(x, 0, 0, 0, 4, 2);
+        checks.dueRecord(x, 0, 0, 0, 4, 2);
         checks.due("the elder stays", 1, x.told(1, DEEP));
         checks.due("one record", 1, x.records());
     }
@@ -485,14 +459,15 @@ public final class PromisesTest {
     /** Read and written lines count once in their set, and other sets have room of their own. */
     private void termsRoom() {
         CoreTransactions x = new CoreTransactions(1, 1, 2);
-        program(x, new int[][] {{BEGIN, 0, 0, 20}, {LOAD, 2, 0, 0}, {STORE, 2, 0, 1}, {STORE, 2, 0, 8}, {LOAD, 2, 0, 11},
+        Checks.program(x, new int[][] {{BEGIN, 0, 0, 20}, {LOAD, 2, 0, 0}, {STORE, 2, 0, 1}, {STORE, 2, 0, 8},
+                {LOAD, 2, 0, 11},
                 {LOAD, 2, 0, 4}, {STORE, 2, 0, 60}, {LOAD, 2, 0, 61}, {STORE, 2, 0, 16}});
         checks.due("two lines of each set", 8, x.pick(0, 8));
         checks.due("read", 4, x.told(0, READ));
         checks.due("written", 3, x.told(0, WRITTEN));
         checks.due("stored", 3, x.told(0, STORED));
         checks.due("a third in a set", 0, x.pick(0, 1));
-        checkRecord(x, 0, 0, 0, 3, 1);
+        checks.dueRecord(x, 0, 0, 0, 3, 1);
         checks.due("no lines", 0, x.told(0, READ) + x.told(0, WRITTEN) + x.told(0, STORED));
         checks.due("nothing stored", 0, x.seen(0, 1) + x.word(1) + x.word(16));
 
@@ -500,7 +475,8 @@ public final class PromisesTest {
         for (int line = 0; line < 16; line++) {
             for (int other = 0; other < 16; other++) {
                 one.clear();
-                program(one, new int[][] {{BEGIN, 0, 0, 9}, {LOAD, 2, 0, 4 * line}, {LOAD, 2, 0, 4 * other + 3}});
+                Checks.program(one, new int[][] {{BEGIN, 0, 0, 9}, {LOAD, 2, 0, 4 * line},
+                        {LOAD, 2, 0, 4 * other + 3}});
                 checks.due("lines " + line + ", " + other + " in one way", line == other ? 3 : 2, one.pick(0, 3));
             }
         }
@@ -510,7 +486,8 @@ public final class PromisesTest {
         CoreTransactions x = new CoreTransactions(2, 0, 2);
         int[] wrongCores = {MIN, -1, 2, MAX};
         int[] wrongPlaces = {MIN, -1, 81, MAX};
-        program(x, new int[][] {{SET, 3, 0, 5}, {BEGIN, 0, 0, 9}, {SET, 3, 0, 6}, {STORE, 3, 0, 0}, {LOAD, 2, 0, 4},
+        Checks.program(x, new int[][] {{SET, 3, 0, 5}, {BEGIN, 0, 0, 9}, {SET, 3, 0, 6}, {STORE, 3, 0, 0},
+                {LOAD, 2, 0, 4},
                 {HALT, 0, 0, 0}});
         x.pick(0, 5);
         for (int wrong : wrongPlaces) {
@@ -567,7 +544,7 @@ public final class PromisesTest {
 
     private void promise5Poke() {
         CoreTransactions x = new CoreTransactions(4, 0, 4);
-        program(x, new int[][] {{BEGIN, 0, 0, 20}, {LOAD, 2, 0, 4}, {JUMP, 0, 0, 9}, {BEGIN, 0, 0, 30},
+        Checks.program(x, new int[][] {{BEGIN, 0, 0, 20}, {LOAD, 2, 0, 4}, {JUMP, 0, 0, 9}, {BEGIN, 0, 0, 30},
                 {STORE, 3, 0, 7}, {JUMP, 0, 0, 9}, {BEGIN, 0, 0, 40}, {LOAD, 2, 0, 8}, {JUMP, 0, 0, 9}});
         x.set(1, 3, 77);
         x.start(1, 3);
@@ -579,7 +556,7 @@ public final class PromisesTest {
         checks.due("a line beside", 0, x.records());
         checks.due("poke: what it was", 0, x.poke(7, 70));
         checks.due("a writer is broken off", 1, x.records());
-        checkRecord(x, 0, 1, 3, 4, 1);
+        checks.dueRecord(x, 0, 1, 3, 4, 1);
         checks.due("poke", 70, x.word(7));
         checks.due("seen", 70, x.seen(1, 7));
         checks.due("one of another line stays", 1, x.told(2, DEEP));
@@ -588,8 +565,8 @@ public final class PromisesTest {
         x.pick(3, 2);
         checks.due("poke again", 70, x.poke(7, -7));
         checks.due("both readers are broken off", 3, x.records());
-        checkRecord(x, 1, 0, 0, 4, 3);
-        checkRecord(x, 2, 3, 0, 4, 4);
+        checks.dueRecord(x, 1, 0, 0, 4, 3);
+        checks.dueRecord(x, 2, 3, 0, 4, 4);
         checks.due("code", 4, x.register(3, 1));
         checks.due("place", 20, x.told(3, PLACE));
         checks.due("what it was", 0, x.poke(63, 1));
@@ -603,7 +580,7 @@ public final class PromisesTest {
 
     private void promise6Pick() {
         CoreTransactions x = new CoreTransactions(2, 0, 1);
-        program(x, new int[][] {{MORE, 2, 2, 1}, {JUMP, 0, 0, 0}});
+        Checks.program(x, new int[][] {{MORE, 2, 2, 1}, {JUMP, 0, 0, 0}});
         checks.due("pick no times", 0, x.pick(1, 0));
         checks.due("pick 2000 times", 2000, x.pick(1, 2000));
         checks.due("r 2", 1000, x.register(1, 2));
@@ -620,7 +597,7 @@ public final class PromisesTest {
             checks.dueThrow("run(7, " + wrong + ")", x, ILLEGAL, () -> x.run(7, wrong));
         }
         x.clear();
-        program(x, new int[][] {{BEGIN, 0, 0, 0}, {ABORT, 0, 0, 0}});
+        Checks.program(x, new int[][] {{BEGIN, 0, 0, 0}, {ABORT, 0, 0, 0}});
         checks.due("a pick that breaks off counts as one", 1000, x.pick(0, 2000));
         checks.due("broken off", 1000, x.told(0, BROKEN_OFF));
     }
@@ -631,7 +608,7 @@ public final class PromisesTest {
         for (int cores = 1; cores <= 4; cores++) {
             for (int seed : seeds) {
                 CoreTransactions x = new CoreTransactions(cores, 0, 1);
-                program(x, new int[][] {{MORE, 2, 2, 1}, {JUMP, 0, 0, 0}});
+                Checks.program(x, new int[][] {{MORE, 2, 2, 1}, {JUMP, 0, 0, 0}});
                 int ended = cores - 1;
                 if (cores > 1) {
                     x.start(ended, 80);
@@ -661,7 +638,7 @@ public final class PromisesTest {
 
     private void promises8To10Asking() {
         CoreTransactions x = new CoreTransactions(3, 0, 4);
-        program(x, new int[][] {{BEGIN, 0, 0, 20}, {STORE, 2, 0, 9}, {SET, 2, 0, 6}});
+        Checks.program(x, new int[][] {{BEGIN, 0, 0, 20}, {STORE, 2, 0, 9}, {SET, 2, 0, 6}});
         x.set(2, 2, 5);
         x.poke(9, 1);
         x.poke(10, 2);
@@ -686,7 +663,8 @@ public final class PromisesTest {
 
     private void promise11Told() {
         CoreTransactions x = new CoreTransactions(2, 0, 4);
-        program(x, new int[][] {{BEGIN, 0, 0, 9}, {END, 0, 0, 0}, {BEGIN, 0, 0, 9}, {ABORT, 0, 0, 0}, {BEGIN, 0, 0, 9},
+        Checks.program(x, new int[][] {{BEGIN, 0, 0, 9}, {END, 0, 0, 0}, {BEGIN, 0, 0, 9}, {ABORT, 0, 0, 0},
+                {BEGIN, 0, 0, 9},
                 {BEGIN, 0, 0, 9}, {LOAD, 2, 0, 0}, {LOAD, 2, 0, 4}, {LOAD, 2, 0, 8}, {STORE, 2, 0, 4},
                 {STORE, 2, 0, 5}, {STORE, 2, 0, 6}, {STORE, 2, 0, 7}, {STORE, 2, 0, 8}});
         x.pick(1, 2);
@@ -720,7 +698,7 @@ public final class PromisesTest {
 
     private void promises12And13Records() {
         CoreTransactions x = new CoreTransactions(2, 0, 1);
-        program(x, new int[][] {{SET, 3, 0, 0}, {BEGIN, 0, 0, 1}, {ABORT, 2, 0, 0}});
+        Checks.program(x, new int[][] {{SET, 3, 0, 0}, {BEGIN, 0, 0, 1}, {ABORT, 2, 0, 0}});
         x.start(1, 1);
         for (int n = 1; n <= 250; n++) {
             x.set(1, 2, n);
@@ -728,9 +706,9 @@ public final class PromisesTest {
             if (n == 1 || n == 99 || n == 100 || n == 101 || n == 199 || n == 200 || n == 250) {
                 int count = Math.min(n, 100);
                 checks.due("records behind " + n, count, x.records());
-                checkRecord(x, 0, 1, 1, 256 + n - count + 1, n - count + 1);
-                checkRecord(x, count - 1, 1, 1, 256 + n, n);
-                checkRecord(x, count / 2, 1, 1, 256 + n - count + 1 + count / 2, n - count + 1 + count / 2);
+                checks.dueRecord(x, 0, 1, 1, 256 + n - count + 1, n - count + 1);
+                checks.dueRecord(x, count - 1, 1, 1, 256 + n, n);
+                checks.dueRecord(x, count / 2, 1, 1, 256 + n - count + 1 + count / 2, n - count + 1 + count / 2);
                 checks.dueThrow("record behind the last", x, INDEX, () -> x.record(count, 0));
             }
         }
@@ -746,9 +724,9 @@ public final class PromisesTest {
         x.clear();
         checks.due("cleared", 0, x.records());
         checks.dueThrow("record(0, 0) of none", x, INDEX, () -> x.record(0, 0));
-        program(x, new int[][] {{BEGIN, 0, 0, 1}, {ABORT, 2, 0, 0}});
+        Checks.program(x, new int[][] {{BEGIN, 0, 0, 1}, {ABORT, 2, 0, 0}});
         x.pick(0, 2);
-        checkRecord(x, 0, 0, 0, 256, 1);
+        checks.dueRecord(x, 0, 0, 0, 256, 1);
     }
 
     private void promise14Clear() {
@@ -756,7 +734,7 @@ public final class PromisesTest {
         CoreTransactions fresh = new CoreTransactions(3, 1, 3);
         int[][] program = {{BEGIN, 0, 0, 5}, {STORE, 2, 0, 3}, {LOAD, 3, 0, 11}, {JUMP, 0, 0, 4}, {LOAD, 3, 0, 19},
                 {MORE, 2, 2, 1}, {LOAD, 3, 0, 7}, {END, 0, 0, 0}};
-        program(x, program);
+        Checks.program(x, program);
         x.set(0, 2, 4);
         x.set(1, 2, 5);
         x.poke(0, 8);
@@ -771,8 +749,8 @@ public final class PromisesTest {
         checks.due("not as at first", 0, Checks.stateOf(x).equals(Checks.stateOf(fresh)) ? 1 : 0);
         x.clear();
         checks.due("as at first", 1, Checks.stateOf(x).equals(Checks.stateOf(fresh)) ? 1 : 0);
-        program(x, program);
-        program(fresh, program);
+        Checks.program(x, program);
+        Checks.program(fresh, program);
         for (int seed = 0; seed < 20; seed++) {
             checks.due("the same run", fresh.run(seed, 10), x.run(seed, 10));
             checks.due("the same state", 1, Checks.stateOf(x).equals(Checks.stateOf(fresh)) ? 1 : 0);
@@ -783,22 +761,5 @@ public final class PromisesTest {
         x.clear();
         x.clear();
         checks.due("cleared twice", 0, x.instruction(HALT, 0, 0, 0));
-    }
-
-    private static void program(CoreTransactions x, int[][] rows) {
-        for (int[] row : rows) {
-            x.instruction(row[0], row[1], row[2], row[3]);
-        }
-    }
-
-    private void checkRecord(CoreTransactions x, int k, int core, int place, int code, int age) {
-        if (k >= x.records()) {
-            checks.due("there is a record " + k, 1, 0);
-            return;
-        }
-        checks.due("record " + k + ": core", core, x.record(k, 0));
-        checks.due("record " + k + ": BEGIN's place", place, x.record(k, 1));
-        checks.due("record " + k + ": code", code, x.record(k, 2));
-        checks.due("record " + k + ": age", age, x.record(k, 3));
     }
 }

@@ -27,8 +27,8 @@ public final class RulesTest {
         "void clear()",
     };
     private static final String[] RULED_OUT = {"->", "::", "import ", "package ", "assert ", "synchronized", "finally",
-        "try ", "catch ", "System.exit", "System.currentTimeMillis", "System.nanoTime", "System.out", "Random", "Thread",
-        "Exact(", "equals(", "hashCode", "toString", "@"};
+        "try ", "catch ", "System.exit", "System.currentTimeMillis", "System.nanoTime", "System.out", "Random",
+        "Thread", "Exact(", "equals(", "hashCode", "toString", "@"};
 
     private static final Checks checks = new Checks();
 
