@@ -627,21 +627,23 @@ public final class CallsEdgesTest implements Names {
     // Promise 14: "All is as at first."
 
     private void clearOfAFullObject() {
-        CoreTransactions x = new CoreTransactions(4, 2, 4);
-        Checks.program(x, row(BEGIN, 0, 0, 0), row(STORE, 2, 0, 3), row(ABORT, 2, 0, 0), row(HALT, 0, 0, 0));
-        for (int n = 4; n < 80; n++) {
-            x.instruction(MORE, 7, 7, 1);
+        CoreTransactions x = fullObject();
+        for (int core = 0; core < 4; core++) {
+            for (int register = 1; register < 8; register++) {
+                checks.due("a register is not 0 before", 0, x.register(core, register) == 0 ? 1 : 0);
+            }
+            for (int what = 0; what < 10; what++) {
+                checks.due("told " + what + " is 0 before", what == ENDED ? 1 : 0, x.told(core, what) == 0 ? 1 : 0);
+            }
         }
-        x.pick(0, 600);
-        x.start(1, 3);
-        x.pick(1, 1);
-        x.set(2, 2, 5);
-        x.pick(2, 2);
         for (int word = 0; word < 64; word++) {
-            x.poke(word, word == 3 ? 0 : word);
+            checks.due("a word is not 0 before", 0, x.word(word) == 0 || x.seen(3, word) == 0 ? 1 : 0);
         }
-        x.pick(2, 2);
-        x.start(3, 80);
+        checks.due("as many records as are kept", 100, x.records());
+        checks.dueThrow("as many instructions as may be", x, UNSUPPORTED, () -> x.instruction(END, 0, 0, 0));
+        x.start(1, 79);
+        x.pick(1, 1);
+        checks.due("one has ended", 1, x.told(1, ENDED));
         x.clear();
         CoreTransactions fresh = new CoreTransactions(4, 2, 4);
         checks.due("as at first", 1, Checks.stateOf(x).equals(Checks.stateOf(fresh)) ? 1 : 0);
@@ -657,6 +659,30 @@ public final class CallsEdgesTest implements Names {
         x.pick(1, 1);
         checks.dueRecord(x, 0, 1, 0, 256, 1);
         checks.due("records from 0 on", 1, x.records());
+    }
+
+    /** All that is at first 0 is another number, but that no core has ended. */
+    private static CoreTransactions fullObject() {
+        CoreTransactions x = made(4, 2, 4, row(BEGIN, 0, 0, 2), row(ABORT, 2, 0, 0), row(BEGIN, 0, 0, 4),
+                row(END, 0, 0, 0), row(BEGIN, 0, 0, 2), row(LOAD, 0, 6, 0), row(STORE, 3, 6, 0), row(JUMP, 0, 0, 2));
+        for (int n = 8; n < 80; n++) {
+            x.instruction(HALT, 0, 0, 0);
+        }
+        for (int word = 0; word < 64; word++) {
+            x.poke(word, 100 + word);
+        }
+        for (int core = 0; core < 4; core++) {
+            for (int register = 1; register < 8; register++) {
+                x.set(core, register, 4 * core + register);
+            }
+            x.set(core, 6, 1 + 8 * core);
+            for (int n = 0; n < 30; n++) {
+                x.start(core, 0);
+                x.pick(core, 2);
+            }
+            x.pick(core, 5);
+        }
+        return x;
     }
 
     private void clearKeepsTheShape() {

@@ -376,6 +376,7 @@ public final class TermsEdgesTest implements Names {
                     x.instruction(operation, 2, 0, word);
                     checks.due("BEGIN", deep, x.pick(0, deep));
                     checks.due("the fault is not retired", 0, x.pick(0, 1));
+                    checks.due("told so", deep, x.told(0, RETIRED));
                     checks.due("it runs", 0, x.told(0, ENDED));
                     checks.due("it goes on", 50, x.told(0, PLACE));
                     checks.due("r 1", FAULT, x.register(0, 1));
@@ -392,20 +393,26 @@ public final class TermsEdgesTest implements Names {
         int[] outside = {-4, -3, -1, 64, 67, 68};
         for (int operation = LOAD; operation <= STORE; operation++) {
             for (int word : outside) {
-                for (int within = 0; within < 2; within++) {
-                    CoreTransactions x = new CoreTransactions(2, 0, 4);
-                    int begin = x.instruction(BEGIN, 0, 0, 80);
-                    int access = x.instruction(operation, 3, 0, word);
-                    x.start(0, within == 1 ? begin : access);
-                    x.pick(0, within);
-                    transact(x, 1, STORE, 0, 63, 32);
-                    checks.due("a fault at " + word, 0, x.pick(0, 1));
-                    checks.due("the other stays", 1, x.told(1, DEEP));
-                    checks.due("its own alone", within, x.records());
-                    checks.due("code", within * FAULT, x.register(0, 1));
+                for (int kind = 0; kind < 3; kind++) {
+                    dueFaultAlone(operation, word, kind);
                 }
             }
         }
+    }
+
+    /** Kind 0: without a transaction, 1: in the elder one, 2: in the younger one. */
+    private void dueFaultAlone(int operation, int word, int kind) {
+        CoreTransactions x = new CoreTransactions(2, 0, 4);
+        int begin = x.instruction(BEGIN, 0, 0, 80);
+        int access = x.instruction(operation, 3, 0, word);
+        x.start(0, kind == 0 ? access : begin);
+        x.pick(0, kind == 1 ? 1 : 0);
+        transact(x, 1, STORE, 0, 63, 32);
+        x.pick(0, kind == 2 ? 1 : 0);
+        checks.due("a fault at " + word, 0, x.pick(0, 1));
+        checks.due("the other stays", 1, x.told(1, DEEP));
+        checks.due("its own alone", kind == 0 ? 0 : 1, x.records());
+        checks.due("code", kind == 0 ? 0 : FAULT, x.register(0, 1));
     }
 
     private void endedByAFault() {
@@ -567,6 +574,7 @@ public final class TermsEdgesTest implements Names {
                 checks.due("does nothing", 0, x.register(0, 1) + x.records() + x.told(0, BROKEN_OFF));
                 checks.due("its place", 1, x.told(0, PLACE));
                 checks.due("ABORT is not retired", 2, x.pick(0, 3));
+                checks.due("told so", 3, x.told(0, RETIRED));
                 checks.due("256 and " + one[0], one[1], x.register(0, 1));
                 checks.due("r a as it was kept", a == 1 ? one[1] : 0, x.register(0, a));
                 checks.dueRecord(x, 0, 0, 1, one[1], 1);
@@ -591,6 +599,7 @@ public final class TermsEdgesTest implements Names {
             checks.due("place", deep == 0 ? halt + 1 : 60, x.told(0, PLACE));
             checks.due("records", deep == 0 ? 0 : 1, x.records());
             checks.due("code", deep == 0 ? 0 : HALTED, x.register(0, 1));
+            checks.due("retired", deep == 0 ? 1 : deep, x.told(0, RETIRED));
             dueGone("HALT", x, 0);
         }
     }
@@ -639,19 +648,21 @@ public final class TermsEdgesTest implements Names {
 
     /** "In a transaction a LOAD has what it stored itself, and its line is READ; a STORE is for itself alone yet." */
     private void ownStores() {
-        CoreTransactions x = made(2, 0, 1, row(BEGIN, 0, 0, 9), row(STORE, 2, 0, 63), row(LOAD, 3, 0, 62),
-                row(LOAD, 4, 0, 63), row(STORE, 0, 0, 63), row(LOAD, 5, 0, 63), row(END, 0, 0, 0));
+        CoreTransactions x = made(2, 0, 1, row(BEGIN, 0, 0, 9), row(STORE, 2, 0, 63), row(LOAD, 4, 0, 63),
+                row(LOAD, 3, 0, 62), row(STORE, 0, 0, 63), row(LOAD, 5, 0, 63), row(END, 0, 0, 0));
         x.poke(62, 11);
         x.poke(63, 12);
         x.set(0, 2, 13);
+        x.set(0, 5, 14);
         x.pick(0, 2);
         checks.due("a STORE reads no line", 0, x.told(0, READ));
         checks.due("its line is written", 1, x.told(0, WRITTEN));
         x.pick(0, 1);
-        checks.due("its line is read", 1, x.told(0, READ));
-        checks.due("a word beside it", 11, x.register(0, 3));
-        x.pick(0, 3);
         checks.due("its own", 13, x.register(0, 4));
+        checks.due("its line is read", 1, x.told(0, READ));
+        x.pick(0, 1);
+        checks.due("a word beside it", 11, x.register(0, 3));
+        x.pick(0, 2);
         checks.due("its own 0", 0, x.register(0, 5));
         checks.due("one line each", 2, x.told(0, READ) + x.told(0, WRITTEN));
         checks.due("one word", 1, x.told(0, STORED));
@@ -692,6 +703,7 @@ public final class TermsEdgesTest implements Names {
         if (line < 16) {
             x.instruction(last, 2, 0, 4 * line);
             checks.due(call + ", a line more", 0, x.pick(0, 1));
+            checks.due(call + ": retired", words.length + 1, x.told(0, RETIRED));
             checks.due(call + ": code", NO_ROOM, x.register(0, 1));
             checks.due(call + ": one record", 1, x.records());
             dueGone(call, x, 0);
@@ -758,6 +770,7 @@ public final class TermsEdgesTest implements Names {
             boolean stays = oldest == (core == storing);
             checks.due("core " + core + " stays", stays ? 1 : 0, x.told(core, DEEP));
             checks.due("its code", stays ? 0 : CONFLICT, x.register(core, 1));
+            checks.due("retired", oldest && core == storing ? 3 : 2, x.told(core, RETIRED));
             if (!stays) {
                 checks.due("goes on", 40, x.told(core, PLACE));
                 checks.dueRecord(x, k, core, 0, CONFLICT, ageIn(order, core));
